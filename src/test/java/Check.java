@@ -80,6 +80,14 @@ final class Check {
         }
     }
 
+    /** The same for a NaiveJudge, without ROWS and switches. */
+    static void put(NaiveJudge j, String text) {
+        for (String part : text.split(";")) {
+            int[] n = numbers(part);
+            j.code.add(new NaiveJudge.Instruction(n[0], n.length > 1 ? n[1] : 0, n.length > 2 ? n[2] : 0));
+        }
+    }
+
     private static int[] numbers(String text) {
         String line = text.trim();
         if (line.isEmpty()) {
