@@ -964,7 +964,9 @@ public final class FlowJudge {
             refused = false;
             doubtful = false;
             isFinal = false;
-            Arrays.fill(cells, 0, locals, NOTHING);
+            for (int k = 0; k < locals; k++) {
+                cells[k] = NOTHING;
+            }
             int n = 0;
             if (code.how != STATIC) {
                 boolean isToBeMade = code.how == CONSTRUCTOR && code.owner != OBJECT;
@@ -1107,8 +1109,12 @@ public final class FlowJudge {
                 refused = true;
                 return;
             }
-            System.arraycopy(cells, under, cells, under + n, n + m);
-            System.arraycopy(cells, top, cells, under, n);
+            for (int k = top - 1; k >= under; k--) {
+                cells[k + n] = cells[k];
+            }
+            for (int k = 0; k < n; k++) {
+                cells[under + k] = cells[top + k];
+            }
             top += n;
         }
 
