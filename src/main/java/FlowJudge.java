@@ -1509,11 +1509,12 @@ public final class FlowJudge {
             places.top = top;
         }
 
+        /** Refuses if there is no way, if what is there has too little in common, or if there is no room. */
         private void comeTo(int target, int way) {
-            int f = frames.find(target, way);
+            int f = way == Contexts.NONE ? Contexts.NONE : frames.find(target, way);
             if (f >= 0) {
                 places.refused = places.refused || !frames.join(f, places);
-            } else if (frames.isFull()) {
+            } else if (way == Contexts.NONE || frames.isFull()) {
                 places.refused = true;
             } else {
                 frames.open(target, way, places);
@@ -1524,11 +1525,11 @@ public final class FlowJudge {
         private boolean goesOn(int i, int way) {
             int op = code.ops[i];
             if (op == JSR) {
-                goDown(i, way);
+                comeTo(code.as[i], wayDown(i + 1, way));
                 return false;
             }
             if (op == RET) {
-                goBack(i, way);
+                comeTo(places.localAt(code.as[i]) >> 4, wayBack(code.as[i], way));
                 return false;
             }
             for (int k = code.firstSwitched[i]; k < code.upToSwitched[i] && !places.refused; k++) {
@@ -1551,26 +1552,17 @@ public final class FlowJudge {
             return false;
         }
 
-        private void goDown(int i, int way) {
-            int address = i + 1;
+        /** The CONTEXT that a jsr goes on with, or NONE if it refuses. */
+        private int wayDown(int address, int way) {
             boolean isKept = address < code.count && contexts.lengths[way] < MOST_ADDRESSES
                 && contexts.before(way, address) == Contexts.NONE;
-            if (isKept) {
-                comeTo(code.as[i], contexts.with(way, address));
-            } else {
-                places.refused = true;
-            }
+            return isKept ? contexts.with(way, address) : Contexts.NONE;
         }
 
-        private void goBack(int i, int way) {
-            int v = places.localAt(code.as[i]);
-            int address = v >> 4;
-            int before = (v & 15) == ADDRESS ? contexts.before(way, address) : Contexts.NONE;
-            if (before == Contexts.NONE) {
-                places.refused = true;
-            } else {
-                comeTo(address, before);
-            }
+        /** The CONTEXT that a ret goes on with, or NONE if it refuses. */
+        private int wayBack(int local, int way) {
+            int v = places.localAt(local);
+            return (v & 15) == ADDRESS ? contexts.before(way, v >> 4) : Contexts.NONE;
         }
     }
 }
