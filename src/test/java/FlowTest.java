@@ -144,6 +144,9 @@ public final class FlowTest {
         due("9; 55 1; 3; 153 6; 9; 55 0; 177", 3, 2, "0()[0,0,0] 6()[0,0,0]");
         due("3; 54 1; 3; 153 6; 9; 55 0; 177", 3, 2, "0()[0,0,0] 6()[0,0,0]");
         due("3; 54 2; 3; 153 6; 9; 55 0; 177", 3, 2, "0()[0,0,0] 6()[0,0,1]");
+        due("9; 55 1; 3; 54 1; 167 5; 177", 3, 2, "0()[0,0,0] 5()[0,1,0]");
+        due("9; 55 1; 3; 54 2; 167 5; 177", 3, 2, "0()[0,0,0] 5()[0,0,1]");
+        due("9; 55 2; 9; 55 1; 167 5; 177", 4, 2, "0()[0,0,0,0] 5()[0,3,7,0]");
         due("9; 55 0; 9; 55 2; 167 5; 177", 4, 2, "0()[0,0,0,0] 5()[3,7,3,7]");
         due("9; 55 0; 9; 55 1; 167 5; 177", 4, 2, "0()[0,0,0,0] 5()[0,3,7,0]");
         due("9; 55 1; 9; 55 0; 167 5; 177", 4, 2, "0()[0,0,0,0] 5()[3,7,0,0]");
@@ -280,13 +283,21 @@ public final class FlowTest {
         j.shape(0, -1, true);
         Check.same("in locals it can be used no more", Check.judged(j, 1, 2, "187 0; 58 0; 3; 153 0; 177"), "0()[0]");
         Check.same("on the stack it refuses", Check.judged(j, 1, 3, "3; 153 2; 187 0; 3; 153 2; 177"), "refused");
+        String twice = "168 6; 25 1; X; 168 6; 177; 0; 58 0; 187 0; 58 1; 169 0; 87; 177; ";
+        Check.same("the older one is used no more", Check.judged(j, 3, 2, twice.replace("X", "58 2")),
+            "0()[0,0,0] 1()[26,121,0] 4()[74,121,0] 6(1)[0,0,0|26] 6(4)[26,121,121|74]");
+        Check.same("nor by a handler", Check.judged(j, 3, 2, twice.replace("X", "58 2") + ": 7 9 10 -1"),
+            "0()[0,0,0] 1()[26,121,0] 4()[74,121,0] 6(1)[0,0,0|26] 6(4)[26,121,121|74] "
+                + "10(1)[26,0,0|24] 10(4)[74,0,0|24]");
+        Check.same("the older one is on the stack", Check.judged(j, 3, 2, twice.replace("X", "0")), "refused");
+        Check.same("the older one was on the stack", Check.judged(j, 3, 2, twice.replace("X", "87")),
+            "0()[0,0,0] 1()[26,121,0] 4()[74,121,0] 6(1)[0,0,0|26] 6(4)[26,121,0|74]");
         Check.same("another one may be on the stack",
             Check.judged(j, 1, 3, "187 0; 187 0; 183 0; 183 0; 177"), "0()[0]");
-        // Round by jsr: the same new is come to while its object is in a local, and kept apart from what it makes.
-        Check.same("the older one is gone", Check.judged(j, 3, 2,
+        Check.same("the same one is put where the older one was", Check.judged(j, 3, 2,
             "168 3; 168 3; 177; 58 0; 187 0; 58 1; 25 1; 58 2; 169 0"),
             "0()[0,0,0] 1()[26,73,73] 2()[42,73,73] 3(1)[0,0,0|26] 3(2)[26,73,73|42]");
-        Check.same("and cannot be made", Check.judged(j, 3, 2,
+        Check.same("made by another subroutine", Check.judged(j, 3, 2,
             "168 4; 168 9; 177; 177; 58 0; 187 0; 58 1; 169 0; 177; 58 0; 25 1; 183 0; 169 0"),
             "0()[0,0,0] 1()[26,89,0] 2()[42,8,0] 4(1)[0,0,0|26] 9(2)[26,89,0|42]");
     }
@@ -334,6 +345,9 @@ public final class FlowTest {
         Check.same("by one way only", constructed(j, a, "3; 153 4; 25 0; 183 0; 177"), "refused");
         Check.same("by one way only, and thrown", constructed(j, a, "3; 153 4; 25 0; 183 0; 1; 191"),
             "0()[6,0] 4()[0,0]");
+        Check.same("by the first way only", constructed(j, a, "3; 153 5; 25 0; 183 0; 167 6; 0; 177"), "refused");
+        Check.same("by the first way only, and thrown",
+            constructed(j, a, "3; 153 5; 25 0; 183 0; 167 6; 0; 1; 191"), "0()[6,0] 5()[6,0] 6()[0,0]");
         Check.same("by both ways", constructed(j, a, "3; 153 5; 25 0; 183 0; 177; 25 0; 183 0; 177"),
             "0()[6,0] 5()[6,0]");
         Check.same("by both ways to one place",

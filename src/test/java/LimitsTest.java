@@ -33,6 +33,7 @@ public final class LimitsTest {
         Check.same("500 times 40", targets(500, 20, 19), 500);
         Check.same("500 times 41", targets(500, 20, 20), -1);
         Check.same("500 times 1", targets(500, 0, 0), 500);
+        Check.same("177 times 113 is one too many", targets(177, 100, 12), -1);
         FlowJudge j = new FlowJudge();
         j.method(0, 0, -1, 200, 199);
         for (int k = 0; k < 49; k++) {

@@ -11,6 +11,7 @@ public final class MethodTest {
         putOpcodes();
         putOperands();
         to();
+        toMany();
         row();
         rowFull();
         Check.end("MethodTest");
@@ -208,6 +209,21 @@ public final class MethodTest {
         Check.same("each switch has its own TARGETS",
             Check.judged(new FlowJudge(), 1, 1, "3; 170 > 2; 3; 54 0; 3; 171 > 6 7; 177; 177"),
             "0()[0] 2()[0] 6()[1] 7()[1]");
+    }
+
+    private static void toMany() {
+        FlowJudge j = new FlowJudge();
+        j.method(0, 0, -1, 1, 1);
+        for (int s = 0; s < 4; s++) {
+            j.put(3, 0, 0);
+            j.put(170, 0, 0);
+            for (int k = 1; k <= 50; k++) {
+                Check.same("one more TARGET of switch " + s, j.to(k < 50 ? 2 * s + 2 : 8 + s), k);
+            }
+        }
+        Check.put(j, "177; 177; 177; 177");
+        Check.same("four switches of 50 TARGETS", Check.frames(j, j.judge(), 1),
+            "0()[0] 2()[0] 4()[0] 6()[0] 8()[0] 9()[0] 10()[0] 11()[0]");
     }
 
     private static void row() {

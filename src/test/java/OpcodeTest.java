@@ -54,7 +54,7 @@ public final class OpcodeTest {
     private static String after(int how, String text) {
         int end = text.split(";").length + 1;
         j.method(a, how, -1, 6, 6);
-        Check.put(j, text + "; 167 " + end + "; 167 " + end);
+        Check.put(j, text + "; 167 " + end + "; " + (how == 2 ? "167 " + end : "177"));
         int count = j.judge();
         if (count < 0) {
             return "refused";

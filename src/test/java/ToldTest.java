@@ -8,6 +8,7 @@ public final class ToldTest {
         kinds();
         digest();
         stays();
+        another();
         Check.end("ToldTest");
     }
 
@@ -147,5 +148,25 @@ public final class ToldTest {
         Check.same("after wrong calls", j.digest(), h);
         Check.same("told does not judge", j.judge(), 1);
         Check.same("the next judge's", j.told(0, 0), 24);
+    }
+
+    /** A judge has nothing left of the one before it. */
+    private static void another() {
+        FlowJudge j = new FlowJudge();
+        j.method(0, 2, -1, 1, 3);
+        Check.put(j, "168 1; 168 2; 177");
+        Check.same("made", Check.frames(j, j.judge(), 1), "0()[8]! 1(1)[8|26]! 2(1,2)[8|26,42]!");
+        Check.same("a smaller one", Check.judged(j, 1, 1, "177"), "0()[0]");
+        for (int n = 1; n < 4; n++) {
+            for (int what = 0; what < 4; what++) {
+                Check.same("no FRAME " + n, j.frame(n, what), -1);
+                Check.same("no CONTEXT of " + n, j.context(n, what), -1);
+                Check.same("no place of " + n, j.told(n, what), -1);
+            }
+        }
+        Check.same("no CONTEXT of 0", j.context(0, 0), -1);
+        Check.same("refused on the way", Check.judged(j, 1, 1, "3; 153 4; 168 3; 0; 0"), "refused");
+        Check.same("kept after that", Check.judged(j, 1, 1, "3; 153 3; 168 3; 177"),
+            "0()[0] 3()[0] 3(3)[0|58]");
     }
 }
