@@ -104,6 +104,7 @@ final class Check {
     /** All FRAMES of a judge that answered count: INSTRUCTION(CONTEXT)[locals|stack], and ! if THIS was made. */
     static String frames(FlowJudge j, int count, int locals) {
         if (count < 0) {
+            noFrames(j);
             return "refused";
         }
         StringBuilder text = new StringBuilder();
@@ -121,11 +122,33 @@ final class Check {
         return text.toString();
     }
 
+    /** There are no FRAMES, by whatever call they are asked for. */
+    static void noFrames(FlowJudge j) {
+        for (int what = 0; what < 4; what++) {
+            same("frame(0, " + what + ") without FRAMES", j.frame(0, what), -1);
+        }
+        same("context(0, 0) without FRAMES", j.context(0, 0), -1);
+        same("told(0, 0) without FRAMES", j.told(0, 0), -1);
+        same("digest without FRAMES", j.digest(), 7);
+    }
+
     /** Judges a static METHOD of CLASS 0 without arguments and result. */
     static String judged(FlowJudge j, int locals, int stack, String text) {
         j.method(0, 0, -1, locals, stack);
         put(j, text);
         return frames(j, j.judge(), locals);
+    }
+
+    /** Judges a METHOD that is told as "owner how result locals stack arguments / INSTRUCTIONS and ROWS". */
+    static String judged(FlowJudge j, String method) {
+        int mark = method.indexOf('/');
+        int[] head = numbers(method.substring(0, mark));
+        j.method(head[0], head[1], head[2], head[3], head[4]);
+        for (int k = 5; k < head.length; k++) {
+            j.argument(head[k]);
+        }
+        put(j, method.substring(mark + 1));
+        return frames(j, j.judge(), head[3]);
     }
 
     static int place(int type) {
