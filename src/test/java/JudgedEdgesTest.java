@@ -137,6 +137,8 @@ public final class JudgedEdgesTest {
                 edges("a jump", "0 0 -1 0 1 / 177; 177; " + op + " X", of("0", "1", "2"), of("3", "4", "" + MAX));
             }
         }
+        edges("the first one jumps", "0 0 -1 0 1 / 167 X; 177", of("0", "1"), of("2", "" + MAX));
+        edges("the first one jumps", "0 0 -1 0 1 / 168 X; 177", of("1"), of("2", "" + MAX));
         edge("no INSTRUCTION", "0 0 -1 0 0 / 177", "0 0 -1 0 0 /");
         edge("no INSTRUCTION, but ROWS", "0 0 -1 0 0 / 177", "0 0 -1 0 0 / : 0 1 0 -1");
     }
@@ -311,6 +313,10 @@ public final class JudgedEdgesTest {
                 Check.yes("kinds", !keeps || !Check.judged(world(), kept).equals("refused"));
             }
         }
+        due("a long at the very beginning", "0 0 -1 2 2 65535 / 3; 153 0; 177", "0()[3,7]");
+        due("a double at the very beginning", "0 0 -1 3 2 65531 / 3; 54 2; 3; 153 0; 177", "0()[4,7,0]");
+        due("what is jumped to by the first one alone", "0 0 -1 1 1 65534 / 167 3; 11; 56 0; 3; 153 1; 177",
+            "0()[1] 1()[0] 3()[0]");
         edge("a long of which one place is another", both("9; 55 1", "9; 55 1", "22 1; 88"),
             both("9; 55 1", "3; 54 2", "22 1; 88"));
         edge("the place behind it", both("9; 55 1", "3; 54 3", "0; 0"), both("9; 55 0", "9; 55 1", "22 1; 88"));
@@ -395,8 +401,10 @@ public final class JudgedEdgesTest {
                     continue;
                 }
                 for (String use : new String[] {"25 0; 179 5", "25 0; 185 8", "25 0; 180 4; 87", "25 0; 184 10; 88"}) {
-                    edge("in a local", both(array + "; 58 0", other + "; 58 0", use), both(array + "; 58 0", array + "; 58 0", use));
-                    edge("in a local", both(other + "; 58 0", array + "; 58 0", use), both(array + "; 58 0", "1; 58 0", use));
+                    edge("in a local", both(array + "; 58 0", other + "; 58 0", use),
+                        both(array + "; 58 0", array + "; 58 0", use));
+                    edge("in a local", both(other + "; 58 0", array + "; 58 0", use),
+                        both(array + "; 58 0", "1; 58 0", use));
                 }
                 edge("on the stack", bothOnStack(array, other, "179 5"), bothOnStack(array, "1", "179 5"));
                 edge("on the stack", bothOnStack(other, array, "179 5"), bothOnStack("1", array, "179 5"));
@@ -408,6 +416,8 @@ public final class JudgedEdgesTest {
         String late = "4 0 -1 2 2 / 18 65536; 58 0; 25 0; 179 5; 3; 153 10; 3; 153 2; 177; 0; X; 58 0; 167 2";
         edges("by a way that is found late", late, of("18 4", "18 7", "18 0"), of("1", "18 65540", "25 0"));
         due("by a way that is found late", late.replace("X", "18 4"), "0()[0,0] 2()[8,0] 10()[8,0]");
+        due("with arguments", "4 0 -1 2 2 65534 / 21 0; 87; 18 65536; 58 1; 25 1; 179 5; 18 4; 58 1; 3; 153 4; 177",
+            "0()[1,0] 4()[1,8]");
         String rows = "4 0 -1 2 2 / 18 65536; 58 0; 0; X; 177; 87; 25 0; 179 5; 177; : 2 6 6 -1";
         edges("by a handler", rows, of("18 4; 58 0"), of("18 65540; 58 0", "1; 58 0", "3; 54 1"));
     }
@@ -451,6 +461,12 @@ public final class JudgedEdgesTest {
             }
         }
         edge("a place for the ADDRESS", "0 0 -1 0 1 / 168 1; 177", "0 0 -1 0 0 / 168 1; 177");
+        StringBuilder almost = new StringBuilder("0 0 -1 200 200 / ");
+        for (int k = 0; k < 198; k++) {
+            almost.append("3; ");
+        }
+        edges("all places that there can be", almost + "X; 177", of("92", "93", "94", "89; 89", "90; 91", "9"),
+            of("3; 92", "92; 89", "3; 93", "3; 94", "92; 3", "3; 9", "92; 9"));
         edge("another place for the ADDRESS", "0 0 -1 0 3 / 9; 168 2; 177", "0 0 -1 0 2 / 9; 168 2; 177");
     }
 
@@ -480,7 +496,9 @@ public final class JudgedEdgesTest {
         String[][] returns = {
             {"65534", "3; 172", "172", "1; 172"}, {"65535", "9; 173", "173", "3; 173"}, {"65530", "11; 174", "174", "3; 174"},
             {"65531", "14; 175", "175", "9; 175"}, {"4", "18 5; 176", "176", "18 0; 176"}, {"-1", "177", "3; 172", "1; 176"},
-            {"65528", "3; 172", "177", "11; 174"}, {"65537", "18 65545; 176", "18 65536; 176", "18 1; 176"},
+            {"65528", "3; 172", "177", "11; 174"}, {"131070", "18 131070; 176", "18 65536; 176", "18 131071; 176"},
+            {"131070", "1; 176", "18 0; 176", "18 196606; 176"}, {"196606", "18 196606; 176", "18 131072; 176", "18 131070; 176"},
+            {"65537", "18 65545; 176", "18 65536; 176", "18 1; 176"},
         };
         for (String[] r : returns) {
             edges("what is returned", "4 0 " + r[0] + " 2 6 / X", of(r[1]), of(r[2], r[3]));
@@ -497,6 +515,8 @@ public final class JudgedEdgesTest {
             of("89; 183 1; 89; 183 1; 190", "190"));
         String used = "0 0 -1 3 3 / 168 9; 25 1; 58 2; 168 9; X; 177; 0; 0; 0; 58 0; 187 4; 58 1; 169 0";
         edges("in locals it is used no more", used, of("25 1; 87", "25 1; 183 1"), of("25 2; 87", "25 2; 183 1"));
+        due("in each local", "0 0 -1 4 1 / 168 8; 25 1; 58 0; 25 1; 58 3; 168 8; 177; 0; 58 2; 187 4; 58 1; 169 2",
+            "0()[0,0,0,0] 1()[0,153,26,0] 6()[0,153,106,0] 8(1)[0,0,0,0|26] 8(6)[153,153,26,153|106]");
         String loop = "0 0 -1 3 3 / 3; 54 0; 1; 58 1; X; 187 4; 58 1; 21 0; 153 4; 177";
         edges("in a loop", loop, of("0", "1; 58 2"), of("25 1; 87"));
         edge("made before it is come to again", "0 0 -1 3 3 / 187 4; 89; 58 1; 183 1; 3; 153 0; 177",
@@ -507,7 +527,8 @@ public final class JudgedEdgesTest {
     private static void constructorsOfNew() {
         edges("just the SHAPE's CLASS", "4 1 -1 3 3 / 187 5; X; 177", of("183 2", "89; 183 2; 87"),
             of("183 1", "183 3", "183 0", "89; 183 2; 183 2", "3; 183 4"));
-        edges("with its arguments", "4 1 -1 3 3 / 187 4; X; 177", of("183 1", "3; 183 4"), of("183 4", "11; 183 4", "3; 183 1"));
+        edges("with its arguments", "4 1 -1 3 3 / 187 4; X; 177", of("183 1", "3; 183 4"),
+            of("183 4", "11; 183 4", "3; 183 1"));
         edges("is NEW", "4 1 -1 3 3 / X; 183 1; 177", of("187 4", "187 4; 89; 58 1"),
             of("1", "18 4", "25 0", "3", "0", "187 5", "187 0"));
         edges("all places become references", "4 0 -1 3 3 / 187 4; 89; 58 0; X; 25 0; 180 0; 87; 180 0; 87; 177",
@@ -516,7 +537,8 @@ public final class JudgedEdgesTest {
 
     /** "or THIS, and the SHAPE's CLASS that of the METHOD or its superclass". */
     private static void constructorsOfThis() {
-        edges("that of the METHOD or its superclass", "6 2 -1 2 3 / 25 0; X; 177", of("183 3", "183 2"), of("183 1", "183 0", "87"));
+        edges("that of the METHOD or its superclass", "6 2 -1 2 3 / 25 0; X; 177", of("183 3", "183 2"),
+            of("183 1", "183 0", "87"));
         edges("that of the METHOD or its superclass", "4 2 -1 2 3 / 25 0; X; 177", of("183 1", "183 0", "3; 183 4"),
             of("183 2", "183 3", "183 4", "11; 183 4"));
         edges("just once", "4 2 -1 2 3 / 25 0; 183 1; X; 177", of("0", "25 0; 87"), of("25 0; 183 1", "25 0; 183 0"));
@@ -525,7 +547,7 @@ public final class JudgedEdgesTest {
         due("all places", "4 2 -1 2 3 / 25 0; 58 1; 25 0; 89; 183 1; 167 6; 167 6", "0()[6,0] 6()[72,72|72]!");
     }
 
-    /** "of another SHAPE: the receiver may stand for the METHOD's CLASS, and the SHAPE's CLASS is that, one above it, or ..". */
+    /** "of another SHAPE: the receiver may stand for the METHOD's CLASS, and the SHAPE's CLASS is that, one above it ..". */
     private static void specialOfOthers() {
         edges("the SHAPE's CLASS", "5 1 -1 1 1 / 25 0; 183 X; 177", of("5", "6", "7", "8", "12"), of("9", "11"));
         edges("the SHAPE's CLASS", "4 1 -1 1 1 / 25 0; 183 X; 177", of("5", "6", "8", "12"), of("7", "9", "11"));
@@ -553,7 +575,8 @@ public final class JudgedEdgesTest {
             of("3; 181 2", "3; 181 3", "3; 181 4", "180 0; 87", "11; 181 0"));
         edges("putfield of what was made", "4 2 -1 1 3 / 25 0; 183 1; 25 0; X; 177", of("3; 181 0", "3; 181 3", "3; 181 4"),
             of("3; 181 2"));
-        edges("putfield of THIS, one below", "5 2 -1 1 3 / 25 0; X; 25 0; 183 2; 177", of("3; 181 2"), of("3; 181 0", "3; 181 3"));
+        edges("putfield of THIS, one below", "5 2 -1 1 3 / 25 0; X; 25 0; 183 2; 177", of("3; 181 2"),
+            of("3; 181 0", "3; 181 3"));
         edge("putfield of NEW", "4 0 -1 1 3 / 187 4; 89; 183 1; 3; 181 0; 177", "4 0 -1 1 3 / 187 4; 3; 181 0; 177");
         edge("THIS is no value", "4 2 -1 1 3 / 25 0; 1; 181 1; 1; 191", "4 2 -1 1 3 / 25 0; 25 0; 181 1; 1; 191");
     }
@@ -574,13 +597,15 @@ public final class JudgedEdgesTest {
     /** "0 is what int is jumped by: 153 to 158; 165, 166, 198, 199 any reference (THIS and NEW, too)". */
     private static void jumpsOnReferences() {
         for (int op = 153; op <= 158; op++) {
-            edges("int alone", "4 2 -1 1 2 / X; " + op + " 2; 1; 191", of("3"), of("1", "25 0", "187 4", "18 4", "11", "9", "0"));
+            edges("int alone", "4 2 -1 1 2 / X; " + op + " 2; 1; 191", of("3"),
+                of("1", "25 0", "187 4", "18 4", "11", "9", "0"));
         }
         for (int op = 159; op <= 164; op++) {
             edges("two ints", "4 2 -1 1 3 / X; " + op + " 3; 1; 191", of("3; 3"), of("1; 3", "3; 1", "0; 3", "9; 0", "11; 3"));
         }
         for (int op = 165; op <= 166; op++) {
-            edges("two references", "4 2 -1 1 3 / X; " + op + " 3; 1; 191", of("1; 1", "25 0; 25 0", "187 4; 187 4", "18 4; 18 65536"),
+            edges("two references", "4 2 -1 1 3 / X; " + op + " 3; 1; 191",
+                of("1; 1", "25 0; 25 0", "187 4; 187 4", "18 4; 18 65536"),
                 of("1; 3", "3; 1", "0; 1", "9; 0", "11; 1"));
         }
         for (int op = 198; op <= 199; op++) {
@@ -601,15 +626,21 @@ public final class JudgedEdgesTest {
         due("any", "4 0 -1 1 1 / 0; 177; 191; : 0 1 2 -1", "0()[0] 2()[0|24]");
         due("one below", "4 0 -1 1 1 / 0; 177; 191; : 0 1 2 9", "0()[0] 2()[0|152]");
         due("two of them", "4 0 -1 1 1 / 0; 177; 191; : 0 1 2 9; : 0 1 2 8", "0()[0] 2()[0|136]");
-        edge("one is over the other", "4 0 8 1 1 / 0; 1; 176; 176; : 0 1 3 9; : 0 1 3 8", "4 0 9 1 1 / 0; 1; 176; 176; : 0 1 3 9; : 0 1 3 8");
+        edge("one is over the other", "4 0 8 1 1 / 0; 1; 176; 176; : 0 1 3 9; : 0 1 3 8",
+            "4 0 9 1 1 / 0; 1; 176; 176; : 0 1 3 9; : 0 1 3 8");
     }
 
     /** "With what is there ahead of each INSTRUCTION (locals)": from with, up to without. */
     private static void handlersSeeWhatIsAhead() {
         String method = "4 0 -1 1 2 / 3; 54 0; 0; 11; 56 0; 177; 21 0; 88; 177; : X 6 -1";
-        edges("ahead of each", method, of("2 3", "2 4", "2 5", "3 5", "4 5"), of("0 1", "1 2", "1 3", "0 6", "2 6", "5 6", "4 6"));
+        edges("ahead of each", method, of("2 3", "2 4", "2 5", "3 5", "4 5"),
+            of("0 1", "1 2", "1 3", "0 6", "2 6", "5 6", "4 6"));
         due("of the INSTRUCTION that stores", "4 0 -1 1 2 / 3; 54 0; 177; 87; 177; : 1 2 3 -1", "0()[0] 3()[0|24]");
         due("of the one behind it", "4 0 -1 1 2 / 3; 54 0; 177; 87; 177; : 2 3 3 -1", "0()[0] 3()[1|24]");
+        due("of one that is come to from outside of the ROW",
+            "4 0 -1 1 2 / 3; 153 6; 3; 54 0; 0; 0; 177; 87; 177; : 5 7 7 -1", "0()[0] 6()[0] 7()[0|24]");
+        due("of one that is come to from outside of the ROW",
+            "4 0 -1 1 2 65534 / 3; 153 6; 11; 56 0; 0; 0; 177; 87; 177; : 5 7 7 -1", "0()[1] 6()[0] 7()[0|24]");
         due("of the last one", "4 0 -1 1 2 / 3; 54 0; 167 4; 191; 177; : 4 5 3 -1", "0()[0] 3()[1|24] 4()[1]");
     }
 

@@ -7,6 +7,7 @@ public final class LimitsTest {
         manyPlaces();
         manyRows();
         longChains();
+        farTargets();
         Check.end("LimitsTest");
     }
 
@@ -138,6 +139,19 @@ public final class LimitsTest {
             Check.same("what is not there for " + k, j.told(k + 1, k + 1), 0);
             Check.same("what is thrown", j.told(k + 1, 60), 24);
         }
+    }
+
+    /** TARGETS that are 256 INSTRUCTIONS and more from one another, come to again and again. */
+    private static void farTargets() {
+        FlowJudge j = new FlowJudge();
+        j.method(0, 0, -1, 1, 1);
+        j.argument(65534);
+        Check.put(j, "167 257; 11; 56 0; 3; 153 257; 177");
+        for (int k = 6; k < 257; k++) {
+            j.put(0, 0, 0);
+        }
+        Check.put(j, "3; 153 1; 177");
+        Check.same("two far TARGETS", Check.frames(j, j.judge(), 1), "0()[1] 1()[0] 257()[0]");
     }
 
     /** What goes round changes one local a round. */

@@ -11,6 +11,8 @@ public final class SubroutineTest {
         handlers();
         merges();
         order();
+        again();
+        another();
         Check.end("SubroutineTest");
     }
 
@@ -150,11 +152,38 @@ public final class SubroutineTest {
         refused(both + "169 1", 2, 2);
     }
 
+    /** What is called again, since there is less in common now, has the CONTEXT that it had. */
+    private static void again() {
+        due("3; 54 0; 168 6; 11; 56 0; 167 2; 58 1; 169 1", 2, 1, "0()[0,0] 2()[0,0] 3()[0,58] 6(3)[0,0|58]");
+        due("3; 54 0; 168 9; 168 9; 11; 56 0; 167 2; 0; 0; 58 1; 169 1", 2, 1,
+            "0()[0,0] 2()[0,0] 3()[0,58] 4()[0,74] 9(3)[0,0|58] 9(4)[0,58|74]");
+        due("3; 54 0; 168 9; 168 9; 168 9; 11; 56 0; 167 2; 0; 58 1; 168 12; 169 1; 58 2; 169 2", 3, 1,
+            "0()[0,0,0] 2()[0,0,0] 3()[0,58,186] 4()[0,74,186] 5()[0,90,186] 9(3)[0,0,0|58] 9(4)[0,58,186|74] "
+                + "9(5)[0,74,186|90] 11(3)[0,58,186] 11(4)[0,74,186] 11(5)[0,90,186] "
+                + "12(3,11)[0,58,0|186] 12(4,11)[0,74,186|186] 12(5,11)[0,90,186|186]");
+    }
+
+    /** CONTEXTS of one judge have nothing to do with those of the one before it. */
+    private static void another() {
+        FlowJudge j = new FlowJudge();
+        String two = "0()[] 1(1)[|26] 2(1,2)[|26,42]";
+        Check.same("two", Check.judged(j, 0, 4, "168 1; 168 2; 177"), two);
+        Check.same("three", Check.judged(j, 0, 4, "168 1; 168 2; 168 3; 177"), two + " 3(1,2,3)[|26,42,58]");
+        Check.same("two again", Check.judged(j, 0, 4, "168 1; 168 2; 177"), two);
+        Check.same("others", Check.judged(j, 0, 4, "168 2; 177; 168 5; 177; 0; 168 1; 177"),
+            "0()[] 1(1,3,6)[|26,58,106] 2(1)[|26] 5(1,3)[|26,58]");
+        Check.same("refused", Check.judged(j, 0, 4, "168 1; 168 2; 168 3; 168 4; 168 5; 177"), "refused");
+        Check.same("two after that", Check.judged(j, 0, 4, "168 1; 168 2; 177"), two);
+    }
+
     /** The lesser ADDRESS at the first difference first, what ends there first. */
     private static void order() {
         due("168 2; 177; 3; 153 5; 168 5; 177", 0, 3, "0()[] 2(1)[|26] 5(1)[|26] 5(1,5)[|26,90]");
         due("3; 153 4; 168 6; 177; 168 6; 177; 87; 177", 0, 2, "0()[] 4()[] 6(3)[|58] 6(5)[|90]");
         due("167 4; 168 6; 177; 177; 3; 153 1; 168 9; 177; 177; 177", 0, 3,
             "0()[] 1()[] 4()[] 6()[] 6(2)[|42] 9(2,7)[|42,122] 9(7)[|122]");
+        // What is come to last has the lesser ADDRESS.
+        due("167 3; 168 7; 177; 3; 153 1; 168 7; 177; 168 9; 177; 177", 0, 2,
+            "0()[] 1()[] 3()[] 7(2)[|42] 7(6)[|106] 9(2,8)[|42,138] 9(6,8)[|106,138]");
     }
 }
