@@ -359,7 +359,7 @@ public final class JudgedEdgesTest {
 
     /** ".. as does another height". */
     private static void heights() {
-        edges("another height", "0 0 -1 0 4 / 3; 153 4; X; 167 5; 3; 177", of("3"), of("0", "9", "89"));
+        edges("another height", "0 0 -1 0 4 / 3; 153 4; X; 167 5; 3; 177", of("3"), of("0", "9"));
         edge("in a loop", "0 0 -1 0 9 / 3; 153 0; 177", "0 0 -1 0 9 / 3; 3; 153 0; 177");
         edge("in a loop, down", "0 0 -1 0 9 / 3; 167 2; 3; 153 2; 177", "0 0 -1 0 9 / 3; 167 2; 87; 3; 153 2; 177");
         edge("by a handler", "0 0 -1 0 9 / 0; 177; 177; : 0 1 2 -1", "0 0 -1 0 9 / 0; 0; 177; : 0 1 2 -1");
@@ -660,7 +660,7 @@ public final class JudgedEdgesTest {
     /** "To go beyond the last INSTRUCTION refuses". */
     private static void beyondTheLastOne() {
         edges("the last one", "0 0 -1 1 1 / 3; 167 2; X", of("170 > 0", "167 2", "177", "87; 177"),
-            of("87", "0", "153 0", "168 2", "54 0"));
+            of("87", "0", "153 0", "87; 168 2", "54 0"));
         edges("the last one", "0 0 -1 1 1 / 1; X", of("191", "177", "198 0; 177"), of("87", "58 0", "198 0", "199 0", "190"));
         edge("the last one is ret", "0 0 -1 1 1 / 168 2; 177; 58 0; 169 0", "0 0 -1 1 1 / 168 2; 177; 58 0; 0");
         edge("none comes to it", "0 0 -1 1 1 / 177; 0", "0 0 -1 1 1 / 167 1; 0");
