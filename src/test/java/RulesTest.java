@@ -675,7 +675,8 @@ public final class RulesTest {
         j.method(OWNER, 2, -1, LOCALS, 2);
         tell(told, op, local, 0, end);
         j.put(167, end, 0);
-        j.put(167, end, 0);
+        j.put(1, 0, 0);
+        j.put(191, 0, 0);
         int count = j.judge();
         if (count < 0) {
             return "refused";

@@ -84,7 +84,7 @@ public final class WaysTest {
         for (String way : ways) {
             text.append("; ").append(way).append("; 167 ").append(at);
         }
-        return text + "; 167 " + at;
+        return text + "; 1; 191";
     }
 
     private static String lastFrame(String code) {
