@@ -3,7 +3,9 @@ import java.util.List;
 
 /**
  * 3 JUDGED, "Each INSTRUCTION asks of what is there what its rule in 4.10.1 asks, and leaves what that says":
- * each INSTRUCTION with every row of values of all kinds that it could find on the stack, or in a local.
+ * each INSTRUCTION with every row of as many values of KINDS as it takes (what just moves places: of MOVED), and
+ * each that uses a local with every one of KINDS in it. What stands for what is asked of the class itself: that
+ * is TypesTest's to look at.
  */
 public final class RulesTest {
     private static final int ARRAY = 65536;
@@ -285,10 +287,10 @@ public final class RulesTest {
 
     private static void lookAtThree(Rule r) {
         for (String x : KINDS) {
-            for (String z : KINDS) {
-                look(r, x, "3", z);
-                look(r, "1", x, z);
-                look(r, x, z, "9");
+            for (String y : KINDS) {
+                for (String z : KINDS) {
+                    look(r, x, y, z);
+                }
             }
         }
     }

@@ -1,6 +1,7 @@
 /**
  * 3 JUDGED, "a TARGET is come to, with one CONTEXT, with what all ways to it have in common": two and three ways
- * with values of all kinds, in locals and on the stack.
+ * with values of KINDS, in locals and on the stack. What two TYPES have in common is asked of the class itself:
+ * that is TypesTest's to look at.
  */
 public final class WaysTest {
     private static final int OWNER = 4;
